@@ -30,7 +30,7 @@ public final class TruthSums {
 
     public TruthSums() {
         text = new Text();
-        reader = new Reader(text);
+        reader = new Reader();
         forcing = new Forcing();
         fitting = new Fit();
         lines = new Line[MOST_GIVEN + MOST_STEPS];
@@ -63,7 +63,7 @@ public final class TruthSums {
     }
 
     public int given() {
-        int told = reader.readGiven();
+        int told = reader.readGiven(text);
         if (told < 0) {
             return told;
         }
@@ -77,7 +77,7 @@ public final class TruthSums {
     }
 
     public int proof() {
-        int told = reader.readProof(givenCount);
+        int told = reader.readProof(text, givenCount);
         if (told < 0) {
             return told;
         }
@@ -712,16 +712,11 @@ public final class TruthSums {
         static final int STEP_WORD = 7, NO_TOKEN = 8;
         private static final int MOST_NUMBER = 999;
 
-        private final Text text;
         private final int[] kinds = new int[MOST_BYTES + 1];
         private final int[] values = new int[MOST_BYTES + 1];
         private final int[] places = new int[MOST_BYTES + 1];
         private int count;
         private int now;
-
-        Tokens(Text text) {
-            this.text = text;
-        }
 
         int kind() {
             return kinds[now];
@@ -743,7 +738,7 @@ public final class TruthSums {
             }
         }
 
-        void split() {
+        void split(Text text) {
             now = 0;
             count = 0;
             int at = 0;
@@ -751,13 +746,13 @@ public final class TruthSums {
             for (int turn = 0; turn < MOST_BYTES && at < text.length; turn++) {
                 int b = text.at(at);
                 if (isSmallLetter(b)) {
-                    at = putWord(at);
+                    at = putWord(text, at);
                 } else if (isDigit(b)) {
-                    at = putNumber(at);
+                    at = putNumber(text, at);
                 } else if (b == ' ') {
                     at++;
                 } else {
-                    at = putSign(at, b);
+                    at = putSign(text, at);
                 }
             }
             put(END, 0, text.length);
@@ -772,7 +767,7 @@ public final class TruthSums {
             }
         }
 
-        private int putWord(int at) {
+        private int putWord(Text text, int at) {
             int behind = at + 1;
             while (behind < text.length && isSmallLetter(text.at(behind))) {
                 behind++;
@@ -781,13 +776,13 @@ public final class TruthSums {
                 int letter = text.at(at) - 'a';
                 put(letter < LETTERS ? LETTER : NO_TOKEN, letter, at);
             } else {
-                int step = stepKind(at, behind);
+                int step = stepKind(text, at, behind);
                 put(step == 0 ? NO_TOKEN : STEP_WORD, step, at);
             }
             return behind;
         }
 
-        private int stepKind(int from, int to) {
+        private static int stepKind(Text text, int from, int to) {
             if (text.spells(from, to, "add")) {
                 return Step.ADD;
             }
@@ -812,7 +807,7 @@ public final class TruthSums {
             return text.spells(from, to, "claim") ? Step.CLAIM : 0;
         }
 
-        private int putNumber(int at) {
+        private int putNumber(Text text, int at) {
             int number = 0;
             int behind = at;
             while (behind < text.length && isDigit(text.at(behind))) {
@@ -825,7 +820,8 @@ public final class TruthSums {
             return behind;
         }
 
-        private int putSign(int at, int b) {
+        private int putSign(Text text, int at) {
+            int b = text.at(at);
             boolean isAtLeast = b == '>' && text.at(at + 1) == '=';
             put(isAtLeast ? AT_LEAST : signKind(b), 0, at);
             return isAtLeast ? at + 2 : at + 1;
@@ -860,10 +856,9 @@ public final class TruthSums {
 
         final Line[] told = new Line[MOST_GIVEN];
         final Step[] steps = new Step[MOST_STEPS];
-        private final Tokens tokens;
+        private final Tokens tokens = new Tokens();
 
-        Reader(Text text) {
-            tokens = new Tokens(text);
+        Reader() {
             for (int i = 0; i < MOST_GIVEN; i++) {
                 told[i] = new Line();
             }
@@ -873,8 +868,8 @@ public final class TruthSums {
         }
 
         /** How many LINES; -10 less FAULT. */
-        int readGiven() {
-            tokens.split();
+        int readGiven(Text text) {
+            tokens.split(text);
             int n = 0;
             while (n < MOST_GIVEN && tokens.kind() != Tokens.END) {
                 if (!takeLine(told[n]) || !take(Tokens.SEMICOLON)) {
@@ -886,8 +881,8 @@ public final class TruthSums {
         }
 
         /** How many STEPS; -10 less FAULT. */
-        int readProof(int givenCount) {
-            tokens.split();
+        int readProof(Text text, int givenCount) {
+            tokens.split(text);
             int n = 0;
             while (n < MOST_STEPS && tokens.kind() != Tokens.END) {
                 if (!takeStepText(steps[n], givenCount + n) || !take(Tokens.SEMICOLON)) {

@@ -245,6 +245,7 @@ public final class PromisesTest {
         dueFault("a>=00;", 3);
         dueFault("05a>=1;", 0);
         dueFault("ab>=1;", 0);
+        dueFault("az>=1;", 0);
         dueFault("A>=1;", 0);
         dueFault("\ta>=1;", 0);
         dueFault("a\n>=1;", 1);
@@ -279,6 +280,9 @@ public final class PromisesTest {
         due("line(3, 0)", x.line(3, 0), TruthSums.NO);
         due("proof() of nothing", x.proof(), 0);
         due("count(0)", x.count(0), 1);
+        due("count(1)", x.count(1), 0);
+        due("count(2)", x.count(2), 0);
+        due("line(1, 0)", x.line(1, 0), TruthSums.NO);
         String twelve = "so a;so b;so c;so d;so e;so f;so a;so b;so c;so d;so e;so f;";
         due("24 STEPS", answerProof("a>=0;b>=0;c>=0;d>=0;e>=0;f>=0;a>=1;b>=1;", twelve + twelve), 24);
         dueProofFault("", twelve + twelve + " so a;", 121);
@@ -405,6 +409,11 @@ public final class PromisesTest {
         due("of nothing", answerProof("", "claim a>=0;claim a+!b>=0;claim a>=1;"), 2);
         due("beyond its WEIGHTS", answerProof("b>=1;", "claim a>=999;"), 0);
         due("where LINES CLASH", answerProof("b>=2;", "claim a>=999;claim !f>=1;"), 2);
+        TruthSums y = withProof("a>=1;!a>=1;", "so a;add 0 1;");
+        typeText(y, "a>=0;b>=0;");
+        y.given();
+        typeText(y, "claim c>=1;");
+        due("with no LINES of an earlier proof", y.proof(), 0);
         due("heavy", answerProof("3a+2b+c>=5;", "claim a+b>=2;claim 2a+b>=3;claim a+b+c>=3;"), 2);
     }
 
@@ -588,6 +597,10 @@ public final class PromisesTest {
         TruthSums z = withProof("a+b>=1;!a+b>=1;2b>=1;", "cut 2 2;");
         due("needed(3, 0)", z.needed(3, 0), 1);
         due("needed(3, 1)", z.needed(3, 1), 4);
+        TruthSums all = withProof("a+b+c>=1;a+b+!c>=1;a+!b+c>=1;a+!b+!c>=1;!a+b+c>=1;!a+b+!c>=1;!a+!b+c>=1;!a+!b+!c>=1;",
+                "claim a+b>=1;claim a>=1;claim !a+b>=1;claim f>=9;");
+        due("all eight", all.needed(11, 0), 8);
+        due("all eight", all.needed(11, 1), 255);
         // all STEPS keep what is TOLD, so no run of calls makes a LINE that is not
         TruthSums w = withGiven("a>=1;b>=1;c>=1;d>=1;e>=1;f>=1;a+b+c+d+e+f>=6;a+b>=2;");
         due("needed(6, 1)", w.needed(6, 1), 64);
@@ -619,6 +632,7 @@ public final class PromisesTest {
         due("covers(5, -1)", x.covers(5, -1), 15);
         due("covers(5, 14)", x.covers(5, 14), 60);
         due("covers(6, 0)", x.covers(6, 0), 33);
+        due("covers of all LETTERS", withGiven("a+b+c+d+e+f>=1;").covers(0, 0), 63);
         due("covers(7, -1)", x.covers(7, -1), TruthSums.BAD);
         due("covers(-1, -1)", x.covers(-1, -1), TruthSums.BAD);
     }
