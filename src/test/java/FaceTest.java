@@ -122,9 +122,13 @@ public final class FaceTest {
     /** What calls make is never given back, so they work in the rows that the constructor made. */
     private static void room() {
         allCalls(new TruthSums());
-        TruthSums x = new TruthSums();
+        TruthSums[] made = new TruthSums[50];
+        for (int k = 0; k < made.length; k++) {
+            made[k] = new TruthSums();
+        }
         long before = allocated();
-        for (int k = 0; k < 100; k++) {
+        for (TruthSums x : made) {
+            allCalls(x);
             allCalls(x);
         }
         long calls = allocated() - before;

@@ -12,6 +12,10 @@ public final class TermsBoundsTest {
     private static final String EIGHT = "a>=0;b>=0;c>=0;d>=0;e>=0;f>=0;a>=1;b>=1;";
     private static final String TWELVE = "so a;so b;so c;so d;so e;so f;not a;not b;not c;not d;not e;not f;";
 
+    private static final int[] NONE_FITS = {
+        TruthSums.NO, TruthSums.NO, TruthSums.NO, TruthSums.NO, TruthSums.NO,
+    };
+
     private static int failures = 0;
     private static String document = "";
     private static String sentence = "";
@@ -59,6 +63,7 @@ public final class TermsBoundsTest {
         wrongDegrees();
         wrongClaims();
         behindWrong();
+        forcedFromTold();
         forcedOrder();
         forcedClash();
         forcedWeights();
@@ -71,6 +76,7 @@ public final class TermsBoundsTest {
         covers();
         costs();
         least();
+        fitTables();
         fitLines();
         fitOfAllAndNone();
         System.out.println(failures == 0 ? "all bounds of the Terms hold" : failures + " answers are not as due");
@@ -448,6 +454,10 @@ public final class TermsBoundsTest {
         dueLine(withProof("3!a>=9;3a>=9;", "add 0 1;"), 2, 0, 0, 0, 0, 0, 0, 15);
         dueLine(withProof("3a>=9;2a>=9;", "add 0 1;"), 2, 5, 0, 0, 0, 0, 0, 18);
         dueLine(withProof("3!a>=9;2!a>=9;", "add 0 1;"), 2, -5, 0, 0, 0, 0, 0, 18);
+        // the least WEIGHTS that have signs
+        dueLine(withProof("a>=9;!a>=9;", "add 0 1;add 1 0;"), 2, 0, 0, 0, 0, 0, 0, 17);
+        dueLine(withProof("a>=9;!a>=9;", "add 0 1;add 1 0;"), 3, 0, 0, 0, 0, 0, 0, 17);
+        dueLine(withProof("a>=9;a>=9;", "add 0 1;"), 2, 2, 0, 0, 0, 0, 0, 18);
         // a WEIGHT of 0 has no sign that is unlike
         dueLine(withProof("3a>=9;2!b>=9;", "add 0 1;"), 2, 3, -2, 0, 0, 0, 0, 18);
         dueLine(withProof("3a+2!b+f>=9;2!a+3b+!f>=9;", "add 0 1;"), 2, 1, 1, 0, 0, 0, 0, 13);
@@ -525,6 +535,12 @@ public final class TermsBoundsTest {
         dueLine(x, 1, 0, 0, 0, 0, 0, 1, 0);
         dueLine(x, 2, -1, 0, 0, 0, 0, 0, 0);
         dueLine(x, 3, 0, 0, 0, 0, 0, -1, 0);
+        // nothing of the LINES that an earlier proof had there is left
+        TruthSums y = withProof("9b>=9;", "times 0 2;times 0 3;");
+        typeText(y, "so a;not f;");
+        due("proof() anew", y.proof(), 2);
+        dueLine(y, 1, 1, 0, 0, 0, 0, 0, 0);
+        dueLine(y, 2, 0, 0, 0, 0, 0, -1, 0);
         proofFault("", "so !a;", 3);
         proofFault("", "so 1;", 3);
         proofFault("", "not !a;", 4);
@@ -791,6 +807,22 @@ public final class TermsBoundsTest {
         proofFault("a>=1;", "claim b>=1;trim 2;", 16);
     }
 
+    private static void forcedFromTold() {
+        of("FORCED: from LETTERS told so, LETTERS told not (others are open):");
+        dueForced("a+f>=1;", 1, 0, 0, 0, 0, 0);
+        dueForced("a+f>=1;", 1, 1, 0, 1, 0, 0);
+        dueForced("a+f>=1;", 1, 0, 1, 32, 1, 0);
+        dueForced("a+f>=1;", 1, 0, 32, 1, 32, 0);
+        dueForced("a+f>=1;", 1, 30, 1, 62, 1, 0);
+        // all told: none is open, and nothing more is forced
+        dueForced("a+f>=1;", 1, 63, 0, 63, 0, 0);
+        dueForced("a+f>=1;", 1, 32, 31, 32, 31, 0);
+        dueForced("a+f>=1;", 1, 0, 63, 0, 63, 1);
+        // all told but one
+        dueForced("a+f>=1;", 1, 0, 62, 1, 62, 0);
+        dueForced("!a+!f>=1;", 1, 62, 0, 62, 1, 0);
+    }
+
     private static void forcedOrder() {
         of("again and again, LINES in order, and in each LETTERS in order:");
         // LINE 0 CLASHES in the second pass, ahead of LINE 2, so what LINE 2 would force then is not
@@ -866,6 +898,12 @@ public final class TermsBoundsTest {
         due("but for the first", withGiven("b>=1;c>=1;d>=1;e>=1;a>=0;a>=0;f>=1;").trues(), 1L << 62 | 1L << 63);
         due("none", withGiven("a>=1;!a>=1;").trues(), 0L);
         due("THE PROOF's are no GIVEN", withProof("", "so a;claim a>=0;").trues(), -1L);
+        TruthSums x = withGiven("a>=1;b>=1;");
+        typeText(x, "a>=1;");
+        due("given() anew", x.given(), 1);
+        due("those of earlier are no GIVEN", x.trues(), 0xaaaaaaaaaaaaaaaaL);
+        due("given() of none", x.given(), 0);
+        due("those of earlier are no GIVEN", x.trues(), -1L);
     }
 
     private static void told() {
@@ -913,6 +951,9 @@ public final class TermsBoundsTest {
         due("least set, 0", least.needed(5, 0), 2);
         due("least set, 1", least.needed(5, 1), 6);
         due("least of two alike", withGiven("a>=0;b>=1;b>=1;").needed(2, 1), 2);
+        // it HOLDS in all WORLDS but the first, but the last: then one is needed
+        due("but for WORLD 0", withGiven("a+b+c+d+e+f>=1;").needed(0, 0), 1);
+        due("but for WORLD 63", withGiven("!a+!b+!c+!d+!e+!f>=1;").needed(0, 0), 1);
         // a set that never HOLDS tells all, too
         due("without TRUE WORLDS", withProof("a>=1;b>=2;", "claim c>=1;").needed(2, 1), 2);
     }
@@ -984,6 +1025,20 @@ public final class TermsBoundsTest {
         }
     }
 
+    private static void fitTables() {
+        of("FIT of a table of three LETTERS (bits of WORLDS 0 .. 7):");
+        for (int world = 0; world < 8; world++) {
+            int a = (world & 1) == 0 ? -1 : 1;
+            int b = (world & 2) == 0 ? -1 : 1;
+            int c = (world & 4) == 0 ? -1 : 1;
+            dueFit(1 << world, a, b, c, 3, 3);
+            dueFit(255 - (1 << world), -a, -b, -c, 1, 3);
+        }
+        dueFit(-1, NONE_FITS);
+        dueFit(256, NONE_FITS);
+        dueFit(1 << 8 | 1, NONE_FITS);
+    }
+
     private static void fitLines() {
         of("a LINE of a, b, c with WEIGHTS -4 .. 4 that HOLDS in just these: of such that whose WEIGHTS, without signs,"
                 + " are least together; of several the first by WEIGHTS of a, b, c (from -4 up); its DEGREE the greatest"
@@ -999,14 +1054,22 @@ public final class TermsBoundsTest {
         dueFit(0x2a, 2, -1, -1, 3, 4);
         dueFit(0xe8, 1, 1, 1, 2, 3);
         of("NONE: there is no such one.");
-        dueFit(0x66, TruthSums.NO, TruthSums.NO, TruthSums.NO, TruthSums.NO, TruthSums.NO);
-        dueFit(0x96, TruthSums.NO, TruthSums.NO, TruthSums.NO, TruthSums.NO, TruthSums.NO);
-        dueFit(0x81, TruthSums.NO, TruthSums.NO, TruthSums.NO, TruthSums.NO, TruthSums.NO);
+        dueFit(0x66, NONE_FITS);
+        dueFit(0x96, NONE_FITS);
+        dueFit(0x81, NONE_FITS);
     }
 
     private static void fitOfAllAndNone() {
         of("where it HOLDS in none, WEIGHTS 0, DEGREE 1; in all, WEIGHTS 0, DEGREE 0.");
         dueFit(0, 0, 0, 0, 1, 0);
         dueFit(255, 0, 0, 0, 0, 0);
+        // the same behind a table that has WEIGHTS
+        TruthSums x = new TruthSums();
+        for (int what = 0; what < 5; what++) {
+            due("fit(0xa8, 0)", x.fit(0xa8, 0), 2);
+            due("fit(0, " + what + ") then", x.fit(0, what), what == 3 ? 1 : 0);
+            due("fit(0xa8, 0)", x.fit(0xa8, 0), 2);
+            due("fit(255, " + what + ") then", x.fit(255, what), 0);
+        }
     }
 }
