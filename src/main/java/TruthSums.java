@@ -598,6 +598,7 @@ public final class TruthSums {
     private static final class Fit {
         private static final int MOST = 4;
         private static final int TABLE_WORLDS = 8;
+        private static final int ABOVE_ALL = 3 * MOST + 1;
 
         int a;
         int b;
@@ -635,7 +636,7 @@ public final class TruthSums {
         }
 
         private boolean fits(int table, int first, int second, int third) {
-            int leastIn = Integer.MAX_VALUE;
+            int leastIn = ABOVE_ALL;
             int mostOut = -1;
             for (int world = 0; world < TABLE_WORLDS && mostOut < leastIn; world++) {
                 int weighs = part(first, world & 1) + part(second, world >> 1 & 1) + part(third, world >> 2);

@@ -825,10 +825,10 @@ public final class TermsBoundsTest {
 
     private static void forcedOrder() {
         of("again and again, LINES in order, and in each LETTERS in order:");
-        // LINE 0 CLASHES in the second pass, ahead of LINE 2, so what LINE 2 would force then is not
+        // LINE 0 would CLASH as soon as LINE 1 has forced both, but LINE 2 has its turn ahead of that
         dueForced("!a+!b>=1;a+b>=2;", 2, 0, 0, 3, 0, 1);
         dueForced("!a+!b>=1;a+b>=2;!a+c>=1;", 3, 0, 0, 7, 0, 1);
-        // LINE 1 CLASHES in the first pass, ahead of LINE 2
+        // LINE 1 CLASHES in the first pass, and LINE 2 has no turn at all
         dueForced("a+b>=2;!a+!b>=1;!a+c>=1;", 3, 0, 0, 3, 0, 1);
         dueForced("a+b>=2;!a+!b>=1;!a+c>=1;", 1, 0, 0, 3, 0, 0);
     }
