@@ -25,6 +25,11 @@ public final class FaceTest {
         "Exact", "hashCode", "toString", "System.out", "Random", "Thread",
     };
     private static final String SOURCE = "src/main/java/TruthSums.java";
+    private static final Pattern LIBRARY = Pattern.compile("\\b(?:Math|Integer|Long)\\.\\w+");
+    private static final Set<String> ALLOWED =
+            Set.of("Math.abs", "Math.max", "Math.min", "Integer.bitCount", "Long.bitCount");
+    private static final int MOST_CLASSES = 12;
+    private static final int MOST_FIELDS = 20;
     private static final long ROOM_OF_CALLS = 100_000;
 
     private static int failures = 0;
@@ -69,9 +74,12 @@ public final class FaceTest {
         must(made.length == 1 && Modifier.isPublic(made[0].getModifiers()) && made[0].getParameterCount() == 0,
                 "one public constructor");
         privateNames(c, names);
+        must(c.getDeclaredClasses().length < MOST_CLASSES, "twelve classes at most");
+        fewFields(c);
         for (Class<?> inside : c.getDeclaredClasses()) {
             must(Modifier.isStatic(inside.getModifiers()), inside + " is static");
             privateNames(inside, names);
+            fewFields(inside);
         }
         constants(c);
     }
@@ -81,6 +89,16 @@ public final class FaceTest {
             must(Modifier.isPublic(m.getModifiers()) || !names.contains(m.getName()), m + " has a name of its own");
             must(m.getParameterCount() <= 7, m + " takes seven parameters at most");
         }
+    }
+
+    private static void fewFields(Class<?> c) {
+        int fields = 0;
+        for (Field f : c.getDeclaredFields()) {
+            boolean isConstant = Modifier.isStatic(f.getModifiers()) && Modifier.isFinal(f.getModifiers());
+            must(isConstant || !Modifier.isStatic(f.getModifiers()), f + " is no static state");
+            fields += isConstant ? 0 : 1;
+        }
+        must(fields <= MOST_FIELDS, c + " has twenty fields at most, not " + fields);
     }
 
     private static void constants(Class<?> c) {
@@ -111,6 +129,10 @@ public final class FaceTest {
         Set<String> known = Set.of("Math.", "Integer.", "Long.", "Step.", "Tokens.");
         while (name.find()) {
             must(known.contains(name.group()), "no library but what is known: " + name.group());
+        }
+        Matcher function = LIBRARY.matcher(code);
+        while (function.find()) {
+            must(ALLOWED.contains(function.group()), "no function that was not looked up in the rules: " + function.group());
         }
     }
 
